@@ -28,6 +28,7 @@ public final class PromiseTests {
         setFormula();
         knownPriceBits();
         knownPricesOfReplacements();
+        overlapMonthIsTheOldItems();
         isImputed();
         imputedCount();
         matchedCount();
@@ -40,8 +41,10 @@ public final class PromiseTests {
         aggregateBits();
         infiniteAndNotANumber();
         tinyPrices();
+        twelveItems();
         undo();
         undoOfEachEdit();
+        undoBehindQuestions();
         errorsChangeNothing();
         System.out.println(asked + " answers asked, " + wrong + " not as due");
         if (wrong != 0) {
@@ -568,6 +571,24 @@ public final class PromiseTests {
         due("14 overlap price changed", c.knownPriceBits(0, 3), bits(610f / 3f * (2400f / 7f / (560f / 3f))));
     }
 
+    /** b * (a / b) need not be a, so the overlap month itself shows which of the two is taken. */
+    private static void overlapMonthIsTheOldItems() {
+        int told = 0;
+        for (int price = 1; price < 40; price++) {
+            float a = 3f / 7f;
+            float b = price / 3f;
+            if (b * (a / b) != a) {
+                told++;
+                PriceIndexCalculator c = withItems(0, 7, 3);
+                c.setPrice(0, 4, 3);
+                c.setPrice(1, 4, price);
+                c.replaceItem(0, 1, 4);
+                due("14 the overlap month has the old item's price", c.knownPriceBits(0, 4), bits(a));
+            }
+        }
+        due("14 some price tells them apart", told > 0 ? 1 : 0, 1);
+    }
+
     private static void isImputed() {
         PriceIndexCalculator c = threeItems();
         due("15 observed", c.isImputed(1, 0), 0);
@@ -645,6 +666,23 @@ public final class PromiseTests {
             due("18 to " + month, c.movementBits(0, 0, month), ARGUMENT);
         }
         movementOrder();
+        removedPricesAreGone();
+    }
+
+    private static void removedPricesAreGone() {
+        for (int formula = 0; formula <= 2; formula++) {
+            PriceIndexCalculator c = withItems(0, 1, 1, 1);
+            c.setFormula(formula);
+            prices(c, 0, 3, 5);
+            prices(c, 1, 7, 8);
+            prices(c, 2, 9, 17);
+            c.movementBits(0, 0, 1);
+            c.setPrice(1, 0, 0);
+            c.setPrice(2, 1, 0);
+            due("18 without removed prices, formula " + formula, c.movementBits(0, 0, 1),
+                bits(formula == 2 ? 1f / (3f / 5f) : 5f / 3f));
+            due("17 without removed prices, formula " + formula, c.matchedCount(0, 0, 1), 1);
+        }
     }
 
     /** A sum of floats depends on its order: the small terms come last and are lost one by one. */
@@ -894,6 +932,34 @@ public final class PromiseTests {
         }
     }
 
+    /** With all twelve items in use, the last row of each table is in use too. */
+    private static void twelveItems() {
+        PriceIndexCalculator c = withItems(3, 1, 1, 1, 1, 1, 1, 1, 1, 1, 1, 1, 1);
+        for (int item = 0; item < 12; item++) {
+            c.setPrice(item, 0, 100 + item);
+            c.setPrice(item, 22, 200 + 3 * item);
+            c.setPrice(item, 23, 300 + 7 * item);
+        }
+        float first = 0f;
+        float last = 0f;
+        for (int item = 0; item < 12; item++) {
+            first += 100f + item;
+            last += 300f + 7f * item;
+        }
+        due("9 the last item", c.replaceItem(10, 11, 23), 1);
+        due("10 the last item", c.endReplacement(11), 0);
+        due("14 the last item", c.knownPriceBits(11, 23), bits(377f));
+        due("15 the last item", c.isImputed(11, 21), 1);
+        due("16 all twelve", c.imputedCount(21), 12);
+        due("17 all twelve", c.matchedCount(3, 0, 23), 12);
+        due("18 all twelve", c.movementBits(3, 0, 23), bits(last / first));
+        due("19 the last item", c.greatestRise(3, 22, 23), 11);
+        due("20 all twelve", c.directIndex(3, 0, 23), hundredths(last / first * 100f));
+        due("23 all twelve", c.aggregateIndex(0, 23), hundredths(25f * (last / first * 100f) / 25f));
+        c.setFormula(1);
+        due("22 all twelve", c.drift(3, 21, 22), 1000000 + 10000 - c.directIndex(3, 21, 22));
+    }
+
     // ---- promise 25
 
     private static void undo() {
@@ -973,6 +1039,28 @@ public final class PromiseTests {
         c.undo();
         due("25 importPrices", c.quotedPrice(0, 0), 10);
         due("25 the text stays empty", c.clearText(), 0);
+    }
+
+    private static void undoBehindQuestions() {
+        PriceIndexCalculator c = withItems(0, 1);
+        prices(c, 0, 10, 20);
+        due("25 before", c.directIndex(0, 0, 1), 20000);
+        c.setPrice(0, 1, 30);
+        due("25 edited", c.directIndex(0, 0, 1), 30000);
+        c.undo();
+        due("25 undone", c.directIndex(0, 0, 1), 20000);
+        due("25 undone", c.knownPriceBits(0, 1), bits(20f));
+
+        PriceIndexCalculator r = withItems(0, 1, 1);
+        prices(r, 0, 10, 20, 30, 40);
+        prices(r, 1, 50, 60, 70, 80);
+        r.replaceItem(0, 1, 0);
+        r.endReplacement(0);
+        r.replaceItem(0, 1, 2);
+        due("25 second overlap", r.knownPriceBits(0, 1), bits(20f));
+        r.undo();
+        r.undo();
+        due("25 first overlap again", r.knownPriceBits(0, 1), bits(60f * (10f / 50f)));
     }
 
     private static void errorsChangeNothing() {
