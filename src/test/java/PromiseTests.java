@@ -286,71 +286,72 @@ public final class PromiseTests {
         due("8 longest, last", c.quotedPrice(11, 21), 10001);
     }
 
-    private static void importError(PriceIndexCalculator c, String text, int offset) {
+    /** A new object each time, since nothing is promised about one after its 512th call. */
+    private static void importError(String text, int offset) {
+        PriceIndexCalculator c = withItems(0, 1, 1, 1);
+        c.setPrice(0, 0, 4);
         due("8 import of " + text, imported(c, text), -10 - offset);
         due("8 kept text " + text, c.importPrices(), -10 - offset);
         due("8 length of " + text, c.clearText(), text.length());
         due("8 price kept " + text, c.quotedPrice(0, 0), 4);
+        due("8 no edit " + text, c.undo(), 3);
     }
 
     private static void importErrors() {
-        PriceIndexCalculator c = withItems(0, 1, 1, 1);
-        c.setPrice(0, 0, 4);
-        importError(c, "", 0);
-        importError(c, "0", 1);
-        importError(c, "0@", 2);
-        importError(c, "0@0", 3);
-        importError(c, "0@0=", 4);
-        importError(c, "0@0=5", 5);
-        importError(c, "0@0=5;0", 7);
-        importError(c, "0@0=5; ", 6);
-        importError(c, " 0@0=5;", 0);
-        importError(c, "0 @0=5;", 1);
-        importError(c, "0@ 0=5;", 2);
-        importError(c, "0@0 =5;", 3);
-        importError(c, "0@0= 5;", 4);
-        importError(c, "0@0=5 ;", 5);
-        importError(c, "3@0=5;", 0);
-        importError(c, "3", 0);
-        importError(c, "99999@0=5;", 0);
-        importError(c, "100000@0=5;", 0);
-        importError(c, "000000@0=5;", 0);
-        importError(c, "00@0=5;", 0);
-        importError(c, "01@0=5;", 0);
-        importError(c, "01x", 0);
-        importError(c, "0@24=5;", 2);
-        importError(c, "0@24", 2);
-        importError(c, "0@00=5;", 2);
-        importError(c, "0@023=5;", 2);
-        importError(c, "0@4294967296=5;", 2);
-        importError(c, "0@0=100000;", 4);
-        importError(c, "0@0=05;", 4);
-        importError(c, "0@0=00", 4);
-        importError(c, "0@0=4294967297;", 4);
-        importError(c, "0@0=18446744073709551617;", 4);
-        importError(c, "0@0=-5;", 4);
-        importError(c, "0@0=+5;", 4);
-        importError(c, "0@0=;", 4);
-        importError(c, "@0=5;", 0);
-        importError(c, "0@=5;", 2);
-        importError(c, "0=0@5;", 1);
-        importError(c, "0@0@5;", 3);
-        importError(c, "0@0=5@", 5);
-        importError(c, "0@0=5;;", 6);
-        importError(c, "0@0=5;0@0=6", 11);
-        importError(c, "0@0=5;0@0=6;3@0=7;", 12);
-        importError(c, "0@0=5;0@0=6;0@99=7;", 14);
-        importError(c, "0@0=5;" + (char) 0, 6);
-        importError(c, "0@0=5" + (char) 255, 5);
-        importError(c, "0@" + (char) ('0' - 1) + "=5;", 2);
-        importError(c, "0@" + (char) ('9' + 1) + "=5;", 2);
+        importError("", 0);
+        importError("0", 1);
+        importError("0@", 2);
+        importError("0@0", 3);
+        importError("0@0=", 4);
+        importError("0@0=5", 5);
+        importError("0@0=5;0", 7);
+        importError("0@0=5; ", 6);
+        importError(" 0@0=5;", 0);
+        importError("0 @0=5;", 1);
+        importError("0@ 0=5;", 2);
+        importError("0@0 =5;", 3);
+        importError("0@0= 5;", 4);
+        importError("0@0=5 ;", 5);
+        importError("3@0=5;", 0);
+        importError("3", 0);
+        importError("99999@0=5;", 0);
+        importError("100000@0=5;", 0);
+        importError("000000@0=5;", 0);
+        importError("00@0=5;", 0);
+        importError("01@0=5;", 0);
+        importError("01x", 0);
+        importError("0@24=5;", 2);
+        importError("0@24", 2);
+        importError("0@00=5;", 2);
+        importError("0@023=5;", 2);
+        importError("0@4294967296=5;", 2);
+        importError("0@0=100000;", 4);
+        importError("0@0=05;", 4);
+        importError("0@0=00", 4);
+        importError("0@0=4294967297;", 4);
+        importError("0@0=18446744073709551617;", 4);
+        importError("0@0=-5;", 4);
+        importError("0@0=+5;", 4);
+        importError("0@0=;", 4);
+        importError("@0=5;", 0);
+        importError("0@=5;", 2);
+        importError("0=0@5;", 1);
+        importError("0@0@5;", 3);
+        importError("0@0=5@", 5);
+        importError("0@0=5;;", 6);
+        importError("0@0=5;0@0=6", 11);
+        importError("0@0=5;0@0=6;3@0=7;", 12);
+        importError("0@0=5;0@0=6;0@99=7;", 14);
+        importError("0@0=5;" + (char) 0, 6);
+        importError("0@0=5" + (char) 255, 5);
+        importError("0@" + (char) ('0' - 1) + "=5;", 2);
+        importError("0@" + (char) ('9' + 1) + "=5;", 2);
         StringBuilder digits = new StringBuilder();
         for (int i = 0; i < 60; i++) {
             digits.append('1');
         }
-        importError(c, digits.toString(), 0);
-        importError(c, "0@0=1;0@0=1;0@0=1;0@0=1;0@0=1;0@0=1;0@0=1;0@0=1;0@0=1;0@0=12", 60);
-        due("8 errors are no edits", c.undo(), 3);
+        importError(digits.toString(), 0);
+        importError("0@0=1;0@0=1;0@0=1;0@0=1;0@0=1;0@0=1;0@0=1;0@0=1;0@0=1;0@0=12", 60);
 
         PriceIndexCalculator empty = new PriceIndexCalculator();
         due("8 no items", imported(empty, "0@0=5;"), -10);
@@ -982,7 +983,7 @@ public final class PromiseTests {
         due("25 price", c.quotedPrice(0, 0), 50);
         due("25 and the one before", c.undo(), 0);
         due("25 price", c.quotedPrice(0, 0), 2);
-        for (int edit = 0; edit < 100; edit++) {
+        for (int edit = 0; edit < 80; edit++) {
             c.setPrice(0, 1, edit + 1);
             c.setPrice(0, 2, edit + 1);
             due("25 long run", c.undo(), edit < 6 ? edit + 1 : 7);
