@@ -56,6 +56,7 @@ public final class BoundaryTests {
 
     private static void description() {
         infinitePrices();
+        greatestFloat();
         pricesDownToNothing();
         notANumber();
         weightZeroTimesInfinity();
@@ -424,6 +425,19 @@ public final class BoundaryTests {
         due("an aggregate of it", c.aggregateIndex(0, 8), HIGHEST);
         due("something over infinity", c.directIndex(0, 8, 0), 0);
         due("something over infinity", c.aggregateBits(8, 0), bits(0f));
+    }
+
+    /** 2000 and 17228 / 10125 were searched for: they lead to the last float before infinity. */
+    private static void greatestFloat() {
+        PriceIndexCalculator c = ladder(1, 99999);
+        c.setPrice(1, 8, 2000);
+        c.setPrice(2, 8, 10125);
+        c.setPrice(2, 9, 17228);
+        due("the greatest float", c.knownPriceBits(3, 9), bits(Float.MAX_VALUE));
+        due("it over itself", c.directIndex(0, 9, 9), 10000);
+        due("it over itself", c.aggregateBits(9, 9), bits(100f));
+        due("no drift", c.drift(0, 9, 9), 1000000);
+        due("the first infinite price after it", c.knownPriceBits(3, 10), INFINITE);
     }
 
     private static void pricesDownToNothing() {
@@ -1146,7 +1160,43 @@ public final class BoundaryTests {
         }, ALL_PROBES);
     }
 
+    // "The successful calls of .. are edits": a successful one that changes nothing is an edit too
     private static void editsThatChangeNothing() {
+        fillsTheUndos("no price removed", c -> c.setPrice(1, 5, 0), 0);
+        fillsTheUndos("the same price", c -> c.setPrice(0, 1, 130), 130);
+        fillsTheUndos("the same weight", c -> c.setWeight(0, 40), 40);
+        fillsTheUndos("the first weight", c -> c.setWeight(3, 25), 25);
+        fillsTheUndos("the same formula", c -> c.setFormula(0), 0);
+        fillsTheUndos("no price removed by a text", c -> write(c, "1@5=0;").importPrices(), 1);
+        fillsTheUndos("the same prices by a text", c -> write(c, "0@0=100;0@1=130;1@0=200;").importPrices(), 3);
+        fillsTheUndos("a price and back by a text", c -> write(c, "0@0=7;0@0=100;").importPrices(), 2);
+        eachOfTheEmptyEditsIsUndone();
+    }
+
+    /** Eight of them drop every edit before them, and each of them is undone by itself. */
+    private static void fillsTheUndos(String what, Call empty, int answer) {
+        PriceIndexCalculator c = small();
+        for (int n = 1; n <= 8; n++) {
+            due(what, empty.on(c), answer);
+        }
+        for (int left = 7; left >= 0; left--) {
+            due(what + ", undone", c.undo(), left);
+        }
+        due(what + ", none before it", c.undo(), STATE);
+        same(what, BoundaryTests::small, () -> {
+            PriceIndexCalculator edited = small();
+            empty.on(edited);
+            return edited;
+        }, STATE_PROBES);
+        same(what + ", undone", BoundaryTests::small, () -> {
+            PriceIndexCalculator edited = small();
+            empty.on(edited);
+            edited.undo();
+            return edited;
+        }, ALL_PROBES);
+    }
+
+    private static void eachOfTheEmptyEditsIsUndone() {
         PriceIndexCalculator c = withItems(0, 1);
         due("setPrice 0 where there is none", c.setPrice(0, 0, 0), 0);
         due("setWeight to the same", c.setWeight(0, 25), 25);
